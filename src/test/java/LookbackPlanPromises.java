@@ -174,6 +174,12 @@ public final class LookbackPlanPromises {
         due("the money stayed for the next purchase", plan.bought(0, 11), 1);
         due("all is spent", plan.money(0), 0);
 
+        LookbackPlan cent = started(1, 1);
+        cent.slip(0, 100);
+        begin(cent, 6, 1);
+        due("one share for the only cent", cent.bought(0, 5), 1);
+        due("the only cent is spent", cent.money(0), 0);
+
         LookbackPlan late = new LookbackPlan();
         begin(late, 6, 500);
         late.join(10);
@@ -403,11 +409,7 @@ public final class LookbackPlanPromises {
         throwsDue("has left already", BAD_STATE, () -> plan.leave(0));
         throwsDue("no such member", BAD_INDEX, () -> plan.leave(1));
         due("sells still", plan.sell(0, 1), 1);
-        due("no money", withoutMoney().leave(0), 0);
-    }
-
-    private static LookbackPlan withoutMoney() {
-        return started(10, 100);
+        due("no money", started(10, 100).leave(0), 0);
     }
 
     private static void promise09Money() {
@@ -561,6 +563,13 @@ public final class LookbackPlanPromises {
         due("23 months after the offer began", byOffer.sell(0, 2), 2);
         byOffer.next(300);
         due("24 months after the offer began", byOffer.sell(0, 2), 0);
+
+        LookbackPlan joinedLater = elevenShares(4);
+        begin(joinedLater, 21, 300);
+        due("month", joinedLater.month(), 27);
+        due("23 months after the offer began in 4", joinedLater.sell(0, 2), 2);
+        joinedLater.next(300);
+        due("24 months after the offer began in 4", joinedLater.sell(0, 2), 0);
 
         // Joined in 0, the lot is of 17: 24 months of the offer end before 12 of the purchase.
         LookbackPlan byPurchase = started(10, 100);
@@ -741,7 +750,7 @@ public final class LookbackPlanPromises {
         return plan;
     }
 
-    /** In month 6, with 11 shares for 85 each, the price being 100 all the time. */
+    /** In month 6, with 11 shares for 85 each, the price having been 100 all the time. */
     private static LookbackPlan elevenShares(int joined) {
         LookbackPlan plan = new LookbackPlan();
         begin(plan, joined + 1, 100);
