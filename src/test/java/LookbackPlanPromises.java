@@ -5,17 +5,7 @@ import java.lang.reflect.Modifier;
 import java.util.TreeSet;
 
 /** One test or more for each promise of the document: ordinary inputs, edges, wrong inputs. */
-public final class LookbackPlanPromises {
-    private static final String BAD_INDEX = "IndexOutOfBoundsException";
-    private static final String BAD_ARGUMENT = "IllegalArgumentException";
-    private static final String BAD_STATE = "IllegalStateException";
-
-    private static int wrong = 0;
-
-    private interface Call {
-        long run();
-    }
-
+public final class LookbackPlanPromises extends PlanTest {
     public static void main(String[] args) {
         publicFace();
         promise01NewObject();
@@ -49,10 +39,7 @@ public final class LookbackPlanPromises {
         promise22GainNow();
         noSuchMemberComesFirst();
         largestSums();
-        System.out.println(wrong == 0 ? "all promises hold" : wrong + " answers are not as due");
-        if (wrong != 0) {
-            System.exit(1);
-        }
+        finish();
     }
 
     // ---- the face
@@ -135,16 +122,6 @@ public final class LookbackPlanPromises {
         due("85 hundredths of 100000", priceAfter(100000, 100000), 85000);
         due("first price is lower", priceAfter(1000, 1001), 850);
         due("purchase month is lower", priceAfter(1000, 800), 680);
-    }
-
-    /** The purchase price in month 5 of a member who joined in month 0. */
-    private static int priceAfter(int first, int inPurchaseMonth) {
-        LookbackPlan plan = started(15, first);
-        plan.slip(0, 5000000);
-        begin(plan, 4, 1);
-        begin(plan, 1, inPurchaseMonth);
-        plan.next(1);
-        return plan.paidEach(0, 5);
     }
 
     private static void promise02BuysOnlyAtTheEndOfPurchaseMonths() {
@@ -725,94 +702,11 @@ public final class LookbackPlanPromises {
         due("traced", plan.traced(0), 330000000);
     }
 
-    // ---- plans that many tests begin with
-
-    /** A plan in month 0, with one member. */
-    private static LookbackPlan started(int rate, int price) {
-        LookbackPlan plan = new LookbackPlan();
-        plan.next(price);
-        plan.join(rate);
-        return plan;
-    }
-
-    private static void begin(LookbackPlan plan, int months, int price) {
-        for (int i = 0; i < months; i++) {
-            plan.next(price);
-        }
-    }
-
-    /** In month 6, after the purchase of month 5 by one member with ample money. */
-    private static LookbackPlan bought(int rate, int first, int ceiling, int inPurchaseMonth) {
-        LookbackPlan plan = started(rate, first);
-        plan.ceiling(ceiling);
-        plan.slip(0, 5000000);
-        begin(plan, 6, inPurchaseMonth);
-        return plan;
-    }
-
-    /** In month 6, with 11 shares for 85 each, the price having been 100 all the time. */
-    private static LookbackPlan elevenShares(int joined) {
-        LookbackPlan plan = new LookbackPlan();
-        begin(plan, joined + 1, 100);
-        plan.join(10);
-        plan.slip(0, 10000);
-        begin(plan, 6 - joined, 100);
-        return plan;
-    }
-
     private static long latePay(int first, int now) {
-        LookbackPlan plan = soldLate(first, now);
-        return plan.pay(0);
+        return soldLate(first, now).pay(0);
     }
 
     private static long lateGain(int first, int now) {
-        LookbackPlan plan = soldLate(first, now);
-        return plan.gain(0);
-    }
-
-    /** One share, bought in month 5, sold in month 24. */
-    private static LookbackPlan soldLate(int first, int now) {
-        LookbackPlan plan = started(10, first);
-        plan.slip(0, 10000);
-        begin(plan, 23, first);
-        plan.next(now);
-        due("late", plan.sell(0, 1), 0);
-        return plan;
-    }
-
-    // ---- checks
-
-    private static void due(String what, long got, long want) {
-        if (got != want) {
-            report(what, Long.toString(got), Long.toString(want));
-        }
-    }
-
-    private static void dueText(String what, String got, String want) {
-        if (!got.equals(want)) {
-            report(what, got, want);
-        }
-    }
-
-    private static void throwsDue(String what, String exception, Call call) {
-        String got;
-        try {
-            got = Long.toString(call.run());
-        } catch (RuntimeException e) {
-            got = e.getClass().getSimpleName();
-        }
-        dueText(what, got, exception);
-    }
-
-    private static void report(String what, String got, String want) {
-        wrong++;
-        StackTraceElement[] trace = new Throwable().getStackTrace();
-        String where = "";
-        for (StackTraceElement frame : trace) {
-            if (frame.getMethodName().startsWith("promise") && where.isEmpty()) {
-                where = frame.getMethodName() + ":" + frame.getLineNumber() + ": ";
-            }
-        }
-        System.out.println(where + what + " answered " + got + ", due is " + want);
+        return soldLate(first, now).gain(0);
     }
 }
